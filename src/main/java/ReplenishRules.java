@@ -334,13 +334,12 @@ public final class ReplenishRules {
         place.planned = 0;
         place.wanted = 0;
         if (place.isFace()) {
-            place.wanted = wantedBy(place);
+            place.wanted = wantedBy(place, thresholdOf(place));
             place.needTime = needTimeOf(place);
         }
     }
 
-    private int wantedBy(Place face) {
-        int threshold = thresholdOf(face);
+    private int wantedBy(Place face, int threshold) {
         if (face.pieces >= threshold) {
             return 0;
         }
@@ -506,7 +505,7 @@ public final class ReplenishRules {
 
         /** The first of the last so many days before today; there are none before day 0. */
         int firstOf(int days) {
-            return Math.max(0, today - days);
+            return today > days ? today - days : 0;
         }
 
         int openDays(int days) {

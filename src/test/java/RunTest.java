@@ -21,9 +21,21 @@ public final class RunTest {
         x.use(0, 1);
         Check.due("below the threshold", x.run(), 1);
         Check.move(x, 0, 1, 0, 21, 9999, 0, 0);
+        heldOnesArePiecesOfTheFace();
+    }
+
+    private static void heldOnesArePiecesOfTheFace() {
+        ReplenishRules x = new ReplenishRules();
+        x.face(0, 0, 10, 30);
+        x.put(0, 0, 12);
+        x.put(1, 0, 100);
+        x.use(0, 2);
         x.hold(0, 9);
-        Check.due("held ones are pieces of the face", x.run(), 1);
-        Check.move(x, 0, 1, 0, 21);
+        x.day(1);
+        Check.due("held ones count to the threshold", x.run(), 0);
+        x.use(0, 1);
+        Check.due("below the threshold", x.run(), 1);
+        Check.move(x, 0, 1, 0, 21, 4);
     }
 
     private static void toMostOrThreshold() {
