@@ -1,64 +1,71 @@
 /** Promise 5: use. */
 public final class UseTest {
     public static void main(String[] args) {
-        ranges();
-        takesPiecesToday();
+        numbers();
+        today();
         noFace();
-        heldPiecesStay();
+        notSoMany();
+        order();
         Check.finish();
     }
 
-    private static void ranges() {
-        ReplenishRules x = new ReplenishRules();
-        x.place(15, 100000, 0);
-        x.face(15, 0, 0, 0);
-        x.put(15, 0, 100000);
-        int[][] wrong = {{-1, 1}, {16, 1}, {15, 0}, {15, -1}, {15, 100001}, {15, Integer.MAX_VALUE}, {0, 0}};
-        for (int[] w : wrong) {
-            Check.refused("use" + java.util.Arrays.toString(w), Check.ARGUMENT, () -> x.use(w[0], w[1]));
-        }
-        Check.taken("use(15, 100000)", () -> x.use(15, 100000));
-        Check.due("no good is left", x.told(15, 2), -1);
-        Check.due("it is a face still", x.told(15, 3), 1);
+    private static void numbers() {
+        Check.says(5, "PLACES 0 .. 15");
+        Warehouse.range("use(n, 1)", 0, 15, (x, n) -> x.use(n, 1));
+        Check.says(5, "Pieces (1 .. 100000) are used from a face today.");
+        Warehouse.range("use(4, n)", 1, 100000, (x, n) -> {
+            if (n == 1 || n == 100000) {
+                x.place(4, 100000, 0);
+                x.put(4, 5, 100000);
+            }
+            x.use(4, n);
+        });
     }
 
-    private static void takesPiecesToday() {
+    private static void today() {
+        Check.says(5, "Pieces (1 .. 100000) are used from a face today.");
         ReplenishRules x = new ReplenishRules();
         x.face(3, 2, 0, 10);
         x.put(3, 2, 10);
         x.day(5);
         x.use(3, 4);
         x.use(3, 2);
-        Check.pieces(x, 3, 4);
-        Check.due("the good stays", x.told(3, 2), 2);
+        Check.told(x, 3, 4, 0, 2, 1, 0, 10);
         Check.due("today is not before today", x.mean(3, 5), 0);
         x.day(6);
         Check.due("used on day 5", x.mean(3, 1), 6);
+        x.use(3, 4);
+        Check.told(x, 3, 0, 0, -1, 1, 0, 10);
         x.day(7);
-        Check.due("not used on day 6", x.mean(3, 1), 0);
+        Check.due("used on day 6", x.mean(3, 1), 4);
+        x.day(8);
+        Check.due("used on day 7", x.mean(3, 1), 0);
     }
 
     private static void noFace() {
-        ReplenishRules x = new ReplenishRules();
-        x.put(0, 0, 10);
-        Check.refused("use of a reserve", Check.STATE, () -> x.use(0, 1));
-        Check.pieces(x, 0, 10);
-        x.face(0, 0, 0, 5);
-        Check.refused("more than there is", Check.STATE, () -> x.use(0, 11));
-        x.day(1);
-        Check.due("a refused use is not counted", x.mean(0, 1), 0);
-        Check.taken("all there is", () -> x.use(0, 10));
+        Check.says(5, "IllegalStateException: it is no face");
+        Warehouse.refused("of a reserve", Check.STATE, x -> x.use(9, 1));
+        Warehouse.refused("of an empty reserve", Check.STATE, x -> x.use(5, 1));
     }
 
-    private static void heldPiecesStay() {
-        ReplenishRules x = new ReplenishRules();
-        x.face(0, 0, 0, 5);
-        x.put(0, 0, 10);
-        x.hold(0, 4);
-        Check.refused("held ones", Check.STATE, () -> x.use(0, 7));
-        Check.taken("all that are not held", () -> x.use(0, 6));
-        Check.pieces(x, 0, 4);
-        Check.due("held", x.told(0, 1), 4);
-        Check.refused("nothing is free", Check.STATE, () -> x.use(0, 1));
+    private static void notSoMany() {
+        Check.says(5, "it is no face, or has not so many that are not held.");
+        Warehouse.refused("one of an empty face", Check.STATE, x -> x.use(4, 1));
+        Warehouse.refused("19 of 18", Check.STATE, x -> x.use(0, 19));
+        Warehouse.refused("100000 of 18", Check.STATE, x -> x.use(0, 100000));
+        Warehouse.taken("18 of 18", x -> x.use(0, 18));
+        Warehouse.refused("6 of 9, of them 4 held", Check.STATE, x -> x.use(3, 6));
+        Warehouse.refused("9 of 9, of them 4 held", Check.STATE, x -> x.use(3, 9));
+        Warehouse.refused("one of 9, all held", Check.STATE, x -> x.hold(3, 9), x -> x.use(3, 1));
+        ReplenishRules x = Warehouse.made();
+        Check.taken("5 of 9, of them 4 held", () -> x.use(3, 5));
+        Check.told(x, 3, 4, 4, 0, 1, 10, 40);
+    }
+
+    private static void order() {
+        Check.refusalsInOrder(5);
+        Warehouse.refused("no such number, of no face", Check.ARGUMENT, x -> x.use(9, 0));
+        Warehouse.refused("no such number, more than there are", Check.ARGUMENT, x -> x.use(0, 100001));
+        Warehouse.refused("no such number, of an empty face", Check.ARGUMENT, x -> x.use(4, -1));
     }
 }
