@@ -102,7 +102,9 @@ public final class ReplenishRules {
 
     public void hold(int place, int n) throws IllegalArgumentException, IllegalStateException {
         Place told = placeAt(place);
-        checkRange(n, 0, Integer.MAX_VALUE);
+        if (n < 0) {
+            throw new IllegalArgumentException("the number is below 0");
+        }
         if (told.pieces < n) {
             throw new IllegalStateException("the place has not so many");
         }

@@ -14,6 +14,7 @@ import java.util.regex.Pattern;
 final class Document {
     private static final Path FILE = Path.of("../shared/DOC.md");
     private static final Pattern WORD = Pattern.compile("[A-Za-z0-9']+");
+    private static final Pattern HEAD = Pattern.compile("(public [^;{]*\\)[^;{]*);");
     private static final Map<String, String> SECTIONS = sections();
 
     private Document() {
@@ -26,6 +27,16 @@ final class Document {
     /** A sentence belongs to a promise if the promise's section has it, or what is said for all of them. */
     static boolean says(int promise, String sentence) {
         return !isHere() || ofAll().contains(sentence) || ofPromise(promise).contains(sentence);
+    }
+
+    /** The heads of the constructor and of the methods of the public face, as the document writes them. */
+    static List<String> heads() {
+        List<String> all = new ArrayList<>();
+        Matcher head = HEAD.matcher(section("The public face"));
+        while (head.find()) {
+            all.add(head.group(1));
+        }
+        return all;
     }
 
     /** The words of the terms and of the promises that no test has named. */

@@ -1,9 +1,13 @@
+import java.io.IOException;
 import java.lang.reflect.Constructor;
 import java.lang.reflect.Executable;
 import java.lang.reflect.Field;
 import java.lang.reflect.Method;
 import java.lang.reflect.Modifier;
+import java.nio.file.Files;
+import java.nio.file.Path;
 import java.util.Arrays;
+import java.util.List;
 import java.util.Set;
 import java.util.TreeSet;
 
@@ -36,7 +40,7 @@ public final class PublicFaceTest {
         "void done(int) " + N + " " + S + " " + U,
         "int told(int, int) " + A);
 
-    public static void main(String[] args) {
+    public static void main(String[] args) throws IOException {
         Class<?> c = ReplenishRules.class;
         Check.due("public and final", c.getModifiers(), Modifier.PUBLIC | Modifier.FINAL);
         Check.due("public methods as the document's", same(publicMethods(c), FACE), true);
@@ -46,7 +50,19 @@ public final class PublicFaceTest {
         Check.due("the constructor is public", made[0].getModifiers(), Modifier.PUBLIC);
         membersAreHidden(c);
         insideAreStatic(c);
+        headsAreTheDocuments();
         Check.finish();
+    }
+
+    private static void headsAreTheDocuments() throws IOException {
+        String source = Files.readString(Path.of("src/main/java/ReplenishRules.java")).replaceAll("\\s+", " ");
+        List<String> heads = Document.heads();
+        if (Document.isHere()) {
+            Check.due("heads of the document: the constructor and the methods", heads.size(), FACE.size() + 1);
+        }
+        for (String head : heads) {
+            Check.due("whether the class has the head: " + head, source.contains(" " + head + " {"), true);
+        }
     }
 
     private static boolean same(Set<String> got, Set<String> want) {
